@@ -25,10 +25,13 @@ public final class AgainstPlainShellTest {
     }
 
     private void session() {
+        for (String text : new String[] {"type t(x,y)", "type p(x)", "def f(x)=x", "var a=2", "var x=1", "var b=t(1,p(2))"}) {
+            ask(lot.nextInt(8) == 0 ? spoilt(text) : text);
+        }
         while (left > 0) {
             int turn = lot.nextInt(100);
             if (turn < 30) {
-                snippet();
+                ask(spoilt(snippetText()));
             } else if (turn < 98) {
                 question();
             } else if (lot.nextInt(4) > 0) {
@@ -47,8 +50,7 @@ public final class AgainstPlainShellTest {
         Check.due(told + call, got, want);
     }
 
-    private void snippet() {
-        String text = spoilt(snippetText());
+    private void ask(String text) {
         told = "behind '" + text + "': ";
         for (int i = 0; i < text.length(); i += 8) {
             long w = Check.word(text.substring(i, Math.min(i + 8, text.length())));
@@ -95,21 +97,42 @@ public final class AgainstPlainShellTest {
         return NAMES[lot.nextInt(NAMES.length)];
     }
 
+    /** Mostly one of these, so that most EXPRS find what they need. */
+    private String oneOf(String... usual) {
+        return lot.nextInt(12) == 0 ? oneName() : usual[lot.nextInt(usual.length)];
+    }
+
     private String blank() {
         return lot.nextInt(6) == 0 ? " " : "";
     }
 
     private String snippetText() {
-        int depth = 1 + lot.nextInt(4);
-        return switch (lot.nextInt(10)) {
-            case 0 -> "var " + oneName();
-            case 1, 2 -> "var " + oneName() + blank() + "=" + blank() + expr(depth);
-            case 3 -> "def " + oneName() + "(" + parts(0) + ")=" + expr(depth);
-            case 4 -> "def f(x) = x<1 ? " + expr(1) + " : " + expr(1) + lotOf("+f(x-1)", ".a", "+f(x-2)") + lotOf("+f(x-1)", "", "*2");
-            case 5 -> "type " + lotOf("t", "p", oneName()) + blank() + "(" + parts(1) + ")";
-            case 6 -> lotOf("t", "p", "f") + "(" + expr(1) + lotOf("", "," + expr(1), "," + expr(1) + "," + expr(1)) + ")";
-            case 7 -> deep();
+        int depth = 1 + lot.nextInt(3);
+        return switch (lot.nextInt(14)) {
+            case 0 -> "var " + oneOf("a", "b");
+            case 1, 2 -> "var " + oneOf("a", "b") + blank() + "=" + blank() + expr(depth);
+            case 3 -> "var " + oneOf("a", "b") + " = " + call(1);
+            case 4 -> "def f(x)=" + expr(depth);
+            case 5 -> "def g(x,y) = " + expr(depth);
+            case 6 -> "def " + oneName() + "(" + parts(0) + ")=" + expr(depth);
+            case 7 -> "def f(x) = x<1 ? " + expr(1) + " : f(x-1)" + lotOf("+f(x-1)", ".x", "+f(x-2)") + lotOf("+f(x-1)", "", "*2");
+            case 8 -> lotOf("type t(x,y)", "type p(x)", "type " + oneName() + blank() + "(" + parts(1) + ")");
+            case 9 -> call(depth);
+            case 10 -> "f(" + lot.nextInt(25) + ")";
+            case 11 -> deep();
             default -> expr(depth);
+        };
+    }
+
+    private String call(int depth) {
+        String one = expr(depth - 1);
+        String two = one + "," + expr(depth - 1);
+        return switch (lot.nextInt(10)) {
+            case 0, 1, 2 -> oneOf("f", "p") + "(" + one + ")";
+            case 3, 4, 5, 6 -> oneOf("g", "t") + "(" + two + ")";
+            case 7 -> oneName() + "(" + two + ",1)";
+            case 8 -> oneName() + "()";
+            default -> oneName() + lotOf("(" + one + ")", "(" + two + ")", "(" + two + ",1,2)");
         };
     }
 
@@ -158,26 +181,24 @@ public final class AgainstPlainShellTest {
     }
 
     private String expr(int depth) {
-        if (depth <= 0 || lot.nextInt(5) == 0) {
-            return switch (lot.nextInt(6)) {
-                case 0 -> "" + lot.nextInt(3);
-                case 1 -> "" + Math.abs(lot.nextLong() % 1_000_000_000_000_000_000L);
-                case 2 -> "$" + lot.nextInt(7);
-                default -> oneName();
+        if (depth <= 0 || lot.nextInt(6) == 0) {
+            return switch (lot.nextInt(8)) {
+                case 0, 1 -> "" + lot.nextInt(4);
+                case 2 -> "" + Math.abs(lot.nextLong() % 1_000_000_000_000_000_000L);
+                case 3, 4 -> "$" + lot.nextInt(1 + Math.max(2, shell.count(1)));
+                default -> oneOf("a", "b", "x");
             };
         }
         String left = blank() + expr(depth - 1) + blank();
         String right = blank() + expr(depth - 1) + blank();
-        return switch (lot.nextInt(13)) {
+        return switch (lot.nextInt(14)) {
             case 0 -> "-" + left;
             case 1 -> "(" + left + ")";
-            case 2, 3 -> left + "." + oneName();
-            case 4 -> left + "?" + right + ":" + expr(depth - 1);
-            case 5 -> oneName() + "(" + left + ")";
-            case 6 -> oneName() + "(" + left + "," + right + ")";
-            case 7 -> oneName() + lotOf("()", "(" + left + "," + right + ",1)", "(" + left + ",1,2,3)");
-            case 8 -> left + "<" + right;
-            case 9 -> left + "=" + right;
+            case 2, 3, 4 -> lotOf(left, "$" + shell.count(1), call(1)) + "." + oneOf("x", "y");
+            case 5 -> left + "?" + right + ":" + expr(depth - 1);
+            case 6, 7, 8 -> call(depth);
+            case 9 -> left + "<" + right;
+            case 10 -> left + "=" + right;
             default -> left + "+-*/%".charAt(lot.nextInt(5)) + right;
         };
     }
