@@ -80,8 +80,10 @@ final class Check {
         try {
             return shell.whole(result);
         } catch (NullPointerException e) {
+            dueThrownByTheClass(e);
             return NULL_POINTER;
         } catch (ClassCastException e) {
+            dueThrownByTheClass(e);
             return CLASS_CAST;
         }
     }
@@ -90,7 +92,13 @@ final class Check {
         try {
             return shell.text(snippet, i);
         } catch (ArrayIndexOutOfBoundsException e) {
+            dueThrownByTheClass(e);
             return OUT_OF_BOUNDS;
         }
+    }
+
+    /** What the machine itself throws has a text of the machine's; the class throws without one. */
+    private static void dueThrownByTheClass(RuntimeException e) {
+        due("thrown by the class itself: " + e, e.getMessage() == null ? 1 : 0, 1);
     }
 }

@@ -62,7 +62,13 @@ public final class CountTest {
         Check.due("state(0)", shell.state(0), 2);
         Check.due("state(39)", shell.state(39), 0);
         Check.due("reset()", shell.reset(), 40);
-        Check.dueWhole(shell, "5", 5);
+        for (int k = 1; k <= 40; k++) {
+            Check.dueRun(shell, "1000 + " + k, k);
+        }
+        Check.due("kind(40)", shell.kind(40), 1);
+        Check.due("whole(40)", Check.wholeOrThrown(shell, 40), 1040);
+        Check.due("kind(41)", shell.kind(41), SnippetShell.UNKNOWN);
+        Check.due("text(39, 7)", Check.textOrThrown(shell, 39, 7), '4');
     }
 
     private static void fortyNames() {

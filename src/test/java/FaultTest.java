@@ -134,6 +134,8 @@ public final class FaultTest {
         Check.dueRun(new SnippetShell(), "-1+-1+-1+-1+-1+-1+-1+-1+-1+-1+-1+-1+-1+-1", 1);
         Check.dueRun(new SnippetShell(), "((((((((((((1))))))))))))?2:3", 1);
         Check.dueRun(new SnippetShell(), "------------1?2:3", 1);
+        Check.dueRun(new SnippetShell(), "(1?2:3)+((((((((((((1))))))))))))", 1);
+        Check.dueRun(new SnippetShell(), "f()" + "+f()".repeat(14), -201);
         Check.dueRun(new SnippetShell(), "def f(x)=((((((((((((x))))))))))))", 0);
         // - between two PRODS does not count, and ? is open behind its : too
         Check.dueRun(new SnippetShell(), "((((((((((((1-1-1))))))))))))", 1);

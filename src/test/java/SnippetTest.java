@@ -97,6 +97,10 @@ public final class SnippetTest {
 
     private static void users() {
         SnippetShell shell = new SnippetShell();
+        Check.dueRun(shell, "def f() = a", 0);
+        dueUsers(shell, "a", 0);
+        dueUsers(shell, "f");
+        shell.reset();
         Check.dueRun(shell, "var a = 1", 0);
         Check.dueRun(shell, "def f(x) = a + a + x.b", 0);
         Check.dueRun(shell, "a + a", 1);
