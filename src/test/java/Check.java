@@ -29,12 +29,10 @@ final class Check {
         return w;
     }
 
-    static int type(SnippetShell shell, String text) {
-        int answer = shell.signs(0);
+    static void type(SnippetShell shell, String text) {
         for (int i = 0; i < text.length(); i += 8) {
-            answer = shell.signs(word(text.substring(i, Math.min(i + 8, text.length()))));
+            shell.signs(word(text.substring(i, Math.min(i + 8, text.length()))));
         }
-        return answer;
     }
 
     static int run(SnippetShell shell, String text) {
@@ -44,6 +42,16 @@ final class Check {
 
     static void dueRun(SnippetShell shell, String text, int want) {
         due("run of '" + text + "'", run(shell, text), want);
+    }
+
+    /** A new object in which these texts were KEPT. */
+    static SnippetShell with(String... texts) {
+        SnippetShell shell = new SnippetShell();
+        for (String text : texts) {
+            int answer = run(shell, text);
+            due("run of '" + text + "': whether it was KEPT", answer >= 0 ? 1 : answer, 1);
+        }
+        return shell;
     }
 
     /** A text whose FAULT has this place. */

@@ -19,15 +19,6 @@ public final class ValueTest {
         Check.end();
     }
 
-    private static SnippetShell with(String... texts) {
-        SnippetShell shell = new SnippetShell();
-        for (String text : texts) {
-            int answer = Check.run(shell, text);
-            Check.due("run of '" + text + "': whether it was KEPT", answer >= 0 ? 1 : answer, 1);
-        }
-        return shell;
-    }
-
     private static void wholes() {
         SnippetShell shell = new SnippetShell();
         Check.dueWhole(shell, "1 + 2*3", 7);
@@ -54,7 +45,7 @@ public final class ValueTest {
     }
 
     private static void choices() {
-        SnippetShell shell = with("var a = 0");
+        SnippetShell shell = Check.with("var a = 0");
         Check.dueWhole(shell, "1 ? 2 : 3", 2);
         Check.dueWhole(shell, "0 ? 2 : 3", 3);
         Check.dueWhole(shell, "-1 ? 2 : 3", 2);
@@ -67,7 +58,7 @@ public final class ValueTest {
     }
 
     private static void members() {
-        SnippetShell shell = with("var x = 100", "def f(x,y) = x*10 + y", "def g(y) = f(y, x) + f(x, y)", "def n() = 7");
+        SnippetShell shell = Check.with("var x = 100", "def f(x,y) = x*10 + y", "def g(y) = f(y, x) + f(x, y)", "def n() = 7");
         Check.dueWhole(shell, "f(1,2)", 12);
         Check.dueWhole(shell, "f(f(1,2),f(3,4))", 154);
         Check.dueWhole(shell, "g(5)", 150 + 1005);
@@ -79,7 +70,7 @@ public final class ValueTest {
     }
 
     private static void declaredAnew() {
-        SnippetShell shell = with("def f(x) = g(x) + v", "var v = 1", "def g(x) = x");
+        SnippetShell shell = Check.with("def f(x) = g(x) + v", "var v = 1", "def g(x) = x");
         Check.dueWhole(shell, "f(5)", 6);
         Check.dueRun(shell, "def g(x) = x * 2", 0);
         Check.dueRun(shell, "var v = v + 10", 0);
@@ -96,7 +87,7 @@ public final class ValueTest {
     }
 
     private static void lacking() {
-        SnippetShell shell = with("var a = 1", "def f(x) = x + b", "type t(x)", "def r() = $3");
+        SnippetShell shell = Check.with("var a = 1", "def f(x) = x + b", "type t(x)", "def r() = $3");
         Check.dueFailure(shell, "1 + b", 1, 4);
         Check.dueFailure(shell, "1 + f", 1, 4);
         Check.dueFailure(shell, "1 + t", 1, 4);
@@ -113,7 +104,7 @@ public final class ValueTest {
     }
 
     private static void nothing() {
-        SnippetShell shell = with("var n", "type t(x)", "var a = t(n)", "def f(x) = x", "def h(x) = 1");
+        SnippetShell shell = Check.with("var n", "type t(x)", "var a = t(n)", "def f(x) = x", "def h(x) = 1");
         Check.dueFailure(shell, "-n", 2, 0);
         Check.dueFailure(shell, "n.x", 2, 1);
         Check.dueFailure(shell, "n ? 1 : 2", 2, 2);
@@ -134,7 +125,7 @@ public final class ValueTest {
     }
 
     private static void kinds() {
-        SnippetShell shell = with("type t(x)", "var a = t(1)", "var b = t(1)", "var c = a");
+        SnippetShell shell = Check.with("type t(x)", "var a = t(1)", "var b = t(1)", "var c = a");
         Check.dueFailure(shell, "-a", 3, 0);
         Check.dueFailure(shell, "a ? 1 : 2", 3, 2);
         Check.dueFailure(shell, "1.x", 3, 1);
@@ -155,7 +146,7 @@ public final class ValueTest {
     }
 
     private static void zero() {
-        SnippetShell shell = with("def d(x,y) = x / y");
+        SnippetShell shell = Check.with("def d(x,y) = x / y");
         Check.dueFailure(shell, "1 / 0", 4, 2);
         Check.dueFailure(shell, "5 + 1 % (2 - 2)", 4, 6);
         Check.dueThrown(shell, "1 + d(1, 0)", new int[] {4, 0, 15, 1});
@@ -164,7 +155,7 @@ public final class ValueTest {
     }
 
     private static void counts() {
-        SnippetShell shell = with("def z() = 1", "def f(x,y) = x", "type t(x,y,z)");
+        SnippetShell shell = Check.with("def z() = 1", "def f(x,y) = x", "type t(x,y,z)");
         Check.dueFailure(shell, "z(1)", 5, 0);
         Check.dueFailure(shell, "f()", 5, 0);
         Check.dueFailure(shell, "f(1)", 5, 0);
@@ -174,7 +165,7 @@ public final class ValueTest {
     }
 
     private static void fields() {
-        SnippetShell shell = with("type t(x,y)", "var a = t(3, t(4, 5))");
+        SnippetShell shell = Check.with("type t(x,y)", "var a = t(3, t(4, 5))");
         Check.dueWhole(shell, "a.x", 3);
         Check.dueWhole(shell, "a.y.x * 10 + a.y.y", 45);
         Check.dueWhole(shell, "-a.y.x", -4);
@@ -185,7 +176,7 @@ public final class ValueTest {
     }
 
     private static void old() {
-        SnippetShell shell = with("type t(x)", "var a = t(1)", "type t(x)", "var b = t(a)");
+        SnippetShell shell = Check.with("type t(x)", "var a = t(1)", "type t(x)", "var b = t(a)");
         Check.dueFailure(shell, "a.x", 7, 1);
         Check.dueFailure(shell, "a.nosuch", 7, 1);
         Check.dueFailure(shell, "b.x.x", 7, 3);
@@ -200,12 +191,12 @@ public final class ValueTest {
     }
 
     private static void spent() {
-        SnippetShell shell = with("def m(x) = x < 1 ? 0 : m(x-1) + m(x-1)");
+        SnippetShell shell = Check.with("def m(x) = x < 1 ? 0 : m(x-1) + m(x-1)");
         Check.dueRun(shell, "m(8)", -208);
         Check.due("thrown(1)", shell.thrown(1), 0);
         Check.due("thrown(4)", shell.thrown(4), 401);
         Check.due("count(6)", shell.count(6), 401);
-        shell = with("def e(x) = x+x+x+x", "def c(x) = e(x)+e(x)+e(x)+e(x)+e(x)");
+        shell = Check.with("def e(x) = x+x+x+x", "def c(x) = e(x)+e(x)+e(x)+e(x)+e(x)");
         // e(x) is 9 STEPS with its call; c(1) is five of them, four + and its own call: 51
         Check.dueWhole(shell, "c(1)", 20);
         Check.due("STEPS of c(1)", shell.thrown(4), 51);
@@ -221,7 +212,7 @@ public final class ValueTest {
     }
 
     private static void deep() {
-        SnippetShell shell = with("type t(x)", "def f(x) = x < 1 ? t(x) : f(x - 1)");
+        SnippetShell shell = Check.with("type t(x)", "def f(x) = x < 1 ? t(x) : f(x - 1)");
         Check.dueRun(shell, "f(19).x", 1);
         Check.dueThrown(shell, "f(20).x", new int[] {9, 1, 26, 20});
         Check.dueThrown(shell, "1 + f(f(20))", new int[] {9, 1, 26, 20});
@@ -237,7 +228,7 @@ public final class ValueTest {
     }
 
     private static void order() {
-        SnippetShell shell = with("var n", "def f(x) = x", "type t(x)", "var a = t(1)");
+        SnippetShell shell = Check.with("var n", "def f(x) = x", "type t(x)", "var a = t(1)");
         // the parts from left to right, then itself
         Check.dueFailure(shell, "n + nosuch", 1, 4);
         Check.dueFailure(shell, "1/0 + nosuch", 4, 1);
@@ -254,7 +245,7 @@ public final class ValueTest {
     }
 
     private static void report() {
-        SnippetShell shell = with("var a = 5");
+        SnippetShell shell = Check.with("var a = 5");
         Check.due("thrown(0) of no FAILURE", shell.thrown(0), 0);
         Check.due("thrown(4)", shell.thrown(4), 1);
         Check.dueThrown(shell, " a / (a - 5)", new int[] {4, 1, 3, 0, 5});
