@@ -243,5 +243,9 @@ public final class EdgeValueTest {
         Check.dueWhole(shell, "-7%4", -3);
         Check.dueRun(shell, "type t(x)", 0);
         Check.dueWhole(shell, "-t(4).x", -4);
+        Check.dueWhole(shell, "10-t(4).x", 6);
+        Check.dueWhole(shell, "10-t(t(4)).x.x-t(3).x", 3);
+        Check.dueWhole(shell, "10-(1?2:3)-(0?4:5)", 3);
+        Check.dueWhole(shell, "10- -3-(-4)", 17);
     }
 }
